@@ -442,7 +442,10 @@ public final class WrongedMeters {
 
     /** All that a change can change: everything but the text. */
     private static final class Town {
-        /** All are made at once; houseCount tells how many of them have come. */
+        /**
+         * All are made at once, and houseCount tells how many have come. Those that have not are open, without a flow
+         * and with a balance of 0: what is done to all houses, or told of them together, leaves them as they are.
+         */
         private final House[] houses = new House[MOST_HOUSES];
         private final Street[] streets = new Street[STREETS];
         private final Ledger ledger = new Ledger();
@@ -601,8 +604,8 @@ public final class WrongedMeters {
         int passDays(int many) {
             int before = readings;
             for (int day = 0; day < many; day++) {
-                for (int number = 0; number < houseCount; number++) {
-                    houses[number].goOn();
+                for (House house : houses) {
+                    house.goOn();
                 }
                 now++;
                 walk(streets[now % STREETS]);
@@ -631,8 +634,7 @@ public final class WrongedMeters {
 
         private void endYear() {
             years++;
-            for (int number = 0; number < houseCount; number++) {
-                House house = houses[number];
+            for (House house : houses) {
                 if (house.balance >= settings[REFUND_FROM]) {
                     house.balance -= UNIT;
                     house.refunds++;
@@ -658,19 +660,18 @@ public final class WrongedMeters {
         }
 
         int houseByBalance(int rank) {
-            for (int number = 0; number < houseCount; number++) {
-                if (housesMoreWronged(number) == rank) {
+            for (int number = 0; number < houseCount && number < MOST_HOUSES; number++) {
+                if (housesAhead(number, houses[number].balance) == rank) {
                     return number;
                 }
             }
             return NOT_FOUND;
         }
 
-        /** How many houses come ahead of one by their balances. */
-        private int housesMoreWronged(int number) {
-            int balance = houses[number].balance;
+        /** How many houses come ahead of one with this number and balance. */
+        private int housesAhead(int number, int balance) {
             int ahead = 0;
-            for (int other = 0; other < houseCount; other++) {
+            for (int other = 0; other < houseCount && other < MOST_HOUSES; other++) {
                 int otherBalance = houses[other].balance;
                 if (otherBalance > balance || otherBalance == balance && other < number) {
                     ahead++;
@@ -702,8 +703,8 @@ public final class WrongedMeters {
 
         private int housesLocked() {
             int many = 0;
-            for (int number = 0; number < houseCount; number++) {
-                if (houses[number].isLocked) {
+            for (House house : houses) {
+                if (house.isLocked) {
                     many++;
                 }
             }
@@ -713,9 +714,8 @@ public final class WrongedMeters {
         /** How many houses have a balance from one number to another; all are between -UNIT and UNIT. */
         private int housesBetween(int least, int greatest) {
             int many = 0;
-            for (int number = 0; number < houseCount; number++) {
-                int balance = houses[number].balance;
-                if (balance >= least && balance <= greatest) {
+            for (House house : houses) {
+                if (house.balance >= least && house.balance <= greatest) {
                     many++;
                 }
             }
@@ -724,16 +724,16 @@ public final class WrongedMeters {
 
         private int balances() {
             int sum = 0;
-            for (int number = 0; number < houseCount; number++) {
-                sum += houses[number].balance;
+            for (House house : houses) {
+                sum += house.balance;
             }
             return sum;
         }
 
         int balancesWithoutSigns() {
             int sum = 0;
-            for (int number = 0; number < houseCount; number++) {
-                sum += Math.abs(houses[number].balance);
+            for (House house : houses) {
+                sum += Math.abs(house.balance);
             }
             return sum;
         }

@@ -213,6 +213,7 @@ public final class PromiseTest {
             due("balance behind " + row[0] + " at -40", x.houseOf(0, 4), row[2]);
         }
         due("again", x.read(0), NOT_POSSIBLE);
+        readAtOne();
         x.days(1);
         x.lock(0, true);
         due("locked", x.read(0), NOT_POSSIBLE);
@@ -222,6 +223,21 @@ public final class PromiseTest {
         due("states", x.count(15), states);
         due("house 1", x.read(1), INVALID);
         due("house -1", x.read(-1), INVALID);
+    }
+
+    /** The smallest balances that tell that somebody was wronged. */
+    private void readAtOne() {
+        used(99);
+        x.read(0);
+        use(60);
+        due("read of 60 at 1", x.read(0), 0);
+        due("balance behind 60 at 1", x.houseOf(0, 4), 941);
+        facts(0, 3, 1, 159, 0, 941, 0, 0, 2, 2, 1, 1, 1, 0, 0);
+        used(1);
+        x.read(0);
+        use(40);
+        due("read of 40 at -1", x.read(0), 1);
+        facts(0, 3, 1, 41, 0, 1059, 0, 0, 2, 2, 1, 1, 1, 0, 0);
     }
 
     private void change() {
@@ -280,6 +296,9 @@ public final class PromiseTest {
         x.days(1);
         due("dial gone round", x.houseOf(0, 2), 0);
         due("used, by the dial alone", x.houseOf(0, 3), 0);
+        goneRound();
+        x.days(99);
+        x.days(99);
         x.lock(0, false);
         x.flow(0, 10);
         due("read once in 4 days", x.days(8), 2);
@@ -291,6 +310,29 @@ public final class PromiseTest {
         due("now", x.count(0), 9999);
         due("1 more", x.days(1), LIMIT);
         due("0 more", x.days(0), INVALID);
+    }
+
+    /** A dial that goes round between two readings. */
+    private void goneRound() {
+        begin();
+        x.set(0, 0);
+        x.house(2, 3);
+        x.flow(0, 999);
+        x.days(99);
+        due("read ahead of the round", x.read(0), 989);
+        x.days(2);
+        due("dial behind the round", x.houseOf(0, 2), 899);
+        due("used over the round", x.houseOf(0, 3), 1998);
+        due("read over the round", x.read(0), 20);
+        x.days(99);
+        due("nearly once round", x.houseOf(0, 3), 98901);
+        x.flow(0, 550);
+        x.days(1);
+        due("nearly once round", x.houseOf(0, 3), 99451);
+        x.days(1);
+        due("once round and on", x.houseOf(0, 3), 1);
+        due("dial on", x.houseOf(0, 2), 900);
+        x.set(0, 3);
     }
 
     private void daysWalk() {
@@ -709,7 +751,41 @@ public final class PromiseTest {
         x.days(16);
         counts("later", new int[] {21, 4, 1, 17, 69, 672, 6300, 5, 50, 2, 1, 10100, 10100, 4, 10, 4, 1});
         settings("then", 3, 10, 1, 5);
+        x.lock(0, true);
+        due("two locked", x.count(2), 2);
+        used(99);
+        x.house(0, 1);
+        x.flow(1, 1);
+        x.days(1);
+        x.read(0);
+        x.read(1);
+        due("a balance of 1", x.count(9), 1);
+        due("a balance of -1", x.count(10), 1);
+        due("balances", x.count(11), 10000);
+        countFull();
         for (int what : new int[] {-1, 17, 18, 19, 24, Integer.MIN_VALUE, Integer.MAX_VALUE}) due("count " + what, x.count(what), INVALID);
+    }
+
+    /** All houses that there can be. */
+    private void countFull() {
+        begin();
+        x.set(0, 0);
+        x.set(3, 5);
+        for (int house = 0; house < 24; house++) {
+            x.house(house / 20, house % 20 + 1);
+            x.flow(house, 10 + house);
+            x.lock(house, house % 2 == 0);
+        }
+        x.days(4);
+        for (int house = 0; house < 24; house++) x.change(house);
+        int[] full = {4, 24, 12, 24, 21, 147, 2064, 0, 0, 12, 11, 10036, 10036, 0, 10, 4, 0};
+        counts("with 24 houses", full);
+        due("the least wronged", x.wronged(23), 2);
+        due("more houses", x.wronged(24), NOT_FOUND);
+        x.set(2, 48);
+        due("refund tomorrow", x.refundIn(3), 1);
+        x.days(1);
+        due("a refund for a balance of 48", x.count(7), 1);
     }
 
     private void undo() {
@@ -762,6 +838,12 @@ public final class PromiseTest {
 
     private void undoRestoresAll() {
         begin();
+        x.read(x.house(0, 20));
+        x.undo();
+        due("no entry", x.count(14), 0);
+        due("no entry", x.ledger(0, 0), NOT_FOUND);
+        begin();
+        x.set(0, 2);
         x.set(3, 5);
         x.set(2, 1);
         for (int i = 0; i < 6; i++) {
