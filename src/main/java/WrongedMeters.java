@@ -425,7 +425,9 @@ public final class WrongedMeters {
             facts[from + 4] = UNIT * units < used ? 0 : UNIT * units > used ? 1 : 2;
             facts[from + 5] = TOLD_BALANCE + balance;
             nextRow = (nextRow + 1) % ROWS;
-            size = Math.min(size + 1, ROWS);
+            if (size < ROWS) {
+                size++;
+            }
         }
 
         int entry(int ago, int what) {
@@ -435,8 +437,8 @@ public final class WrongedMeters {
             if (ago >= size) {
                 return NOT_FOUND;
             }
-            int row = (nextRow + ROWS - 1 - ago) % ROWS;
-            return facts[row * FACTS + what];
+            int at = (nextRow + ROWS - 1 - ago) % ROWS * FACTS + what;
+            return at >= 0 && at < ROWS * FACTS ? facts[at] : NOT_FOUND;
         }
     }
 
@@ -608,7 +610,10 @@ public final class WrongedMeters {
                     house.goOn();
                 }
                 now++;
-                walk(streets[now % STREETS]);
+                Street street = streetNumbered(now % STREETS);
+                if (street != null) {
+                    walk(street);
+                }
                 int year = settings[YEAR];
                 if (year > 0 && now % year == 0) {
                     endYear();
@@ -755,21 +760,26 @@ public final class WrongedMeters {
         }
 
         void record(Town town) {
-            states[freeSlot].copyFrom(town);
+            if (freeSlot >= 0 && freeSlot < SLOTS) {
+                states[freeSlot].copyFrom(town);
+            }
         }
 
         void keep() {
             freeSlot = (freeSlot + 1) % SLOTS;
-            size = Math.min(size + 1, MOST_STATES);
+            if (size < MOST_STATES) {
+                size++;
+            }
         }
 
         int restore(Town town) {
-            if (size <= 0) {
+            int latest = (freeSlot + SLOTS - 1) % SLOTS;
+            if (size <= 0 || latest < 0 || latest >= SLOTS) {
                 return NOT_POSSIBLE;
             }
+            town.copyFrom(states[latest]);
+            freeSlot = latest;
             size--;
-            freeSlot = (freeSlot + SLOTS - 1) % SLOTS;
-            town.copyFrom(states[freeSlot]);
             return size;
         }
     }
@@ -814,7 +824,8 @@ public final class WrongedMeters {
             position = 0;
             reason = 0;
             cause = 0;
-            for (done = 0; done < MOST_CHARACTERS && position < length; done++) {
+            done = 0;
+            for (int order = 0; order < MOST_CHARACTERS && position < length; order++) {
                 start = position;
                 if (!takeOrder()) {
                     reason = NOT_OF_THE_FORM;
@@ -827,6 +838,7 @@ public final class WrongedMeters {
                     cause = answer;
                     return;
                 }
+                done++;
             }
         }
 

@@ -1,13 +1,16 @@
 import java.util.Random;
 
-/** Runs of 512 calls, drawn from fixed seeds, on the class and on the model side by side. */
+/** Runs of up to 512 calls, drawn from fixed seeds, on the class and on the model side by side. */
 public final class ModelTest {
     private static final int RUNS = 1500;
-    private static final int CALLS = 512;
+    /** The calls that one draw makes at most, and those that compareAll() makes. */
+    private static final int DRAW = 4;
+    private static final int LOOK = 44;
+    private static final int CALLS_BETWEEN_LOOKS = 108;
 
     private final Random random;
     private final int seed;
-    private final WrongedMeters object = new WrongedMeters();
+    private final Counted object = new Counted();
     private final Model model = new Model();
     private final StringBuilder told = new StringBuilder();
     private String toType = "";
@@ -28,11 +31,15 @@ public final class ModelTest {
     }
 
     private int run() {
-        int calls = 0;
-        while (calls < CALLS && wrong == 0) {
-            calls += oneCall();
-            if (calls % 64 == 0) calls += compareAll();
+        int nextLook = CALLS_BETWEEN_LOOKS;
+        while (object.calls() + DRAW + LOOK <= Counted.MOST_CALLS && wrong == 0) {
+            draw();
+            if (object.calls() >= nextLook) {
+                compareAll();
+                nextLook += CALLS_BETWEEN_LOOKS;
+            }
         }
+        if (object.calls() + LOOK <= Counted.MOST_CALLS) compareAll();
         return wrong;
     }
 
@@ -68,108 +75,98 @@ public final class ModelTest {
         return seed % 5 == 0 && random.nextInt(3) == 0 ? 99 : random.nextInt(3) == 0 ? near(1, 99) : 1 + random.nextInt(6);
     }
 
-    private int oneCall() {
+    private void draw() {
         if (!toType.isEmpty()) {
             int sign = toType.charAt(0);
             toType = toType.substring(1);
             due("type(" + sign + ")", object.type(sign), model.type(sign));
-            return 1;
+            return;
         }
         switch (random.nextInt(40)) {
-            case 0: case 1: case 2: case 3: return callHouse();
-            case 4: case 5: case 6: return callFlow();
-            case 7: return callLock();
-            case 8: case 9: return callRead();
-            case 10: return callChange();
-            case 11: case 12: case 13: case 14: case 15: case 16: return callDays();
-            case 17: return callSet();
-            case 18: case 19: case 20: return callHouseOf();
-            case 21: case 22: case 23: return callOfStreet();
-            case 24: case 25: return callLedger();
-            case 26: case 27: return callWhatWouldBe();
-            case 28: return callRefundIn();
-            case 29: case 30: return callIfDays();
-            case 31: case 32: return callCount();
-            case 33: return callUndo();
-            case 34: case 35: return drawText();
-            case 36: return callClear();
-            default: return callTexts();
+            case 0: case 1: case 2: case 3: callHouse(); break;
+            case 4: case 5: case 6: callFlow(); break;
+            case 7: callLock(); break;
+            case 8: case 9: callRead(); break;
+            case 10: callChange(); break;
+            case 11: case 12: case 13: case 14: case 15: case 16: callDays(); break;
+            case 17: callSet(); break;
+            case 18: case 19: case 20: callHouseOf(); break;
+            case 21: case 22: case 23: callOfStreet(); break;
+            case 24: case 25: callLedger(); break;
+            case 26: case 27: callWhatWouldBe(); break;
+            case 28: callRefundIn(); break;
+            case 29: case 30: callIfDays(); break;
+            case 31: case 32: callCount(); break;
+            case 33: callUndo(); break;
+            case 34: case 35: drawText(); break;
+            case 36: callClear(); break;
+            default: callTexts(); break;
         }
     }
 
-    private int callHouse() {
+    private void callHouse() {
         int street = street();
         int place = near(1, 20);
         due("house(" + street + ", " + place + ")", object.house(street, place), model.order('h', street, place));
-        return 1;
     }
 
-    private int callFlow() {
+    private void callFlow() {
         int house = house();
         int flow = random.nextInt(3) == 0 ? 25 * random.nextInt(9) : near(0, 999);
         due("flow(" + house + ", " + flow + ")", object.flow(house, flow),
             flow < 0 || flow > 999 ? Model.INVALID : model.order('f', house, flow));
-        return 1;
     }
 
-    private int callLock() {
+    private void callLock() {
         int house = house();
         boolean locked = random.nextBoolean();
         due("lock(" + house + ", " + locked + ")", object.lock(house, locked), model.lock(house, locked));
-        return 1;
     }
 
-    private int callRead() {
+    private void callRead() {
         int house = house();
         due("read(" + house + ")", object.read(house), model.order('r', house, 0));
-        return 1;
     }
 
-    private int callChange() {
+    private void callChange() {
         int house = house();
         due("change(" + house + ")", object.change(house), model.order('c', house, 0));
-        return 1;
     }
 
-    private int callDays() {
+    private void callDays() {
         int many = manyDays();
         due("days(" + many + ")", object.days(many), model.order('d', many, 0));
-        return 1;
     }
 
-    private int callSet() {
+    private void callSet() {
         int what = near(0, 3);
         int[][] ranges = {{0, 12}, {1, 50}, {1, 99}, {5, 400}};
         int[] range = ranges[Math.max(0, Math.min(3, what))];
         int value = what == 3 && random.nextBoolean() ? 5 + random.nextInt(20) : near(range[0], range[1]);
         due("set(" + what + ", " + value + ")", object.set(what, value), model.set(what, value));
-        return 1;
     }
 
-    private int callHouseOf() {
+    private void callHouseOf() {
         int house = house();
         int what = near(0, 13);
         due("houseOf(" + house + ", " + what + ")", object.houseOf(house, what), model.houseOf(house, what));
-        return 1;
     }
 
-    private int callOfStreet() {
+    private void callOfStreet() {
         int street = street();
         int place = near(1, 20);
         int rank = near(0, 8);
         due("at(" + street + ", " + place + ")", object.at(street, place), model.at(street, place));
         due("next(" + street + ", " + rank + ")", object.next(street, rank), model.next(street, rank));
-        return 2;
     }
 
-    private int callLedger() {
+    private void callLedger() {
         int ago = near(0, 10);
         int what = near(0, 5);
         due("ledger(" + ago + ", " + what + ")", object.ledger(ago, what), model.ledger(ago, what));
-        return 1;
     }
 
-    private int callWhatWouldBe() {
+    private void callWhatWouldBe() {
         int house = house();
         int what = near(0, 3);
         int rank = near(0, 24);
@@ -177,47 +174,40 @@ public final class ModelTest {
         due("ifRead(" + house + ", " + what + ")", object.ifRead(house, what), model.ifRead(house, what));
         due("wronged(" + rank + ")", object.wronged(rank), model.wronged(rank));
         due("mean()", object.mean(), model.mean());
-        return 4;
     }
 
-    private int callRefundIn() {
+    private void callRefundIn() {
         int house = house();
         due("refundIn(" + house + ")", object.refundIn(house), model.refundIn(house));
-        return 1;
     }
 
-    private int callIfDays() {
+    private void callIfDays() {
         int many = manyDays();
         int what = near(0, 2);
         due("ifDays(" + many + ", " + what + ")", object.ifDays(many, what), model.ifDays(many, what));
-        return 1;
     }
 
-    private int callCount() {
+    private void callCount() {
         int what = random.nextInt(5) == 0 ? near(20, 23) : near(0, 16);
         due("count(" + what + ")", object.count(what), model.count(what));
-        return 1;
     }
 
-    private int callUndo() {
+    private void callUndo() {
         due("undo()", object.undo(), model.undo());
-        return 1;
     }
 
-    private int callClear() {
+    private void callClear() {
         due("clearText()", object.clearText(), model.clearText());
-        return 1;
     }
 
-    private int callTexts() {
+    private void callTexts() {
         int what = near(0, 2);
         due("fault(" + what + ")", object.fault(what), model.fault(what));
-        if (random.nextBoolean()) return 1;
+        if (random.nextBoolean()) return;
         due("play()", object.play(), model.play());
-        return 2;
     }
 
-    private int drawText() {
+    private void drawText() {
         StringBuilder text = new StringBuilder();
         int orders = 1 + random.nextInt(5);
         for (int i = 0; i < orders; i++) drawOrder(text);
@@ -225,7 +215,7 @@ public final class ModelTest {
         if (random.nextInt(6) == 0) text.setLength(random.nextInt(text.length()) + 1);
         if (random.nextInt(40) == 0) text.setCharAt(0, (char) (random.nextBoolean() ? 31 : 127));
         toType = text.toString();
-        return callClear();
+        callClear();
     }
 
     private void drawOrder(StringBuilder text) {
@@ -246,7 +236,7 @@ public final class ModelTest {
     }
 
     /** Every count, and every fact of one house and of one entry. */
-    private int compareAll() {
+    private void compareAll() {
         for (int what = 0; what <= 23; what++) due("count(" + what + ")", object.count(what), model.count(what));
         int house = house();
         for (int what = 0; what <= 13; what++) {
@@ -256,6 +246,5 @@ public final class ModelTest {
         for (int what = 0; what <= 5; what++) {
             due("ledger(" + ago + ", " + what + ")", object.ledger(ago, what), model.ledger(ago, what));
         }
-        return 44;
     }
 }
