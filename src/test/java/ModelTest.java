@@ -30,7 +30,13 @@ public final class ModelTest {
         if (failed != 0) System.exit(1);
     }
 
+    /** Some runs begin near the last day. */
+    private void goAhead() {
+        for (int i = 0; i < 100; i++) due("days(99)", object.days(99), model.order('d', 99, 0));
+    }
+
     private int run() {
+        if (seed % 8 == 7) goAhead();
         int nextLook = CALLS_BETWEEN_LOOKS;
         while (object.calls() + DRAW + LOOK <= Counted.MOST_CALLS && wrong == 0) {
             draw();

@@ -429,6 +429,12 @@ final class ReadingEdges extends Edges {
                 due("behind it", x.ledger(house, 5), 1000);
             }
             for (int ago : new int[] {10, 11, 256, MOST}) due("full, ago " + ago, x.ledger(ago, 0), NOT_FOUND);
+            for (int left = 9; left >= 6; left--) {
+                x.undo();
+                due("undone, the oldest one", x.ledger(left - 1, 1), 0);
+                due("undone, behind it", x.ledger(left, 0), NOT_FOUND);
+                due("undone, entries", x.count(14), left);
+            }
         });
     }
 

@@ -188,6 +188,12 @@ final class WalkEdges extends Edges {
             x.lock(3, false);
             due("all but the last one", x.days(4), 1);
             order(0, 4, 0, 1, 2, 3);
+            x.lock(3, true);
+            x.lock(0, false);
+            due("all ahead of one and behind it", x.days(4), 1);
+            order(0, 1, 2, 3, 4, 0);
+            due("one round further", x.days(4), 1);
+            order(0, 1, 2, 3, 4, 0);
         });
         edge("those that are not read for a reason are passed by", () -> {
             housesAt(0, 1);
